@@ -101,7 +101,7 @@ public final class CharactersMultiplied {
             size += row;
             last = row;
         }
-        return shapes.find(key);
+        return shapes.find(size, key);
     }
 
     public int shapes(int size, int what) {
@@ -620,7 +620,7 @@ public final class CharactersMultiplied {
             0x11111111,
         };
         /** The first SHAPE of each SIZE, and behind them where the SHAPES end. */
-        private static final int[] FIRST = {0, 1, 2, 4, 7, 12, 19, 30, 45, SHAPES};
+        private static final int[] FIRST = {0, 1, 2, 4, 7, 12, 19, 30, 45, 67};
         private static final int[] FACTORIALS = {1, 1, 2, 6, 24, 120, 720, 5040, 40320};
         private static final int DIGIT = 4;
         private static final int DIGIT_MASK = 15;
@@ -636,7 +636,7 @@ public final class CharactersMultiplied {
                 readRows(shape);
             }
             for (int shape = 0; shape < SHAPES; shape++) {
-                rests[shape] = find(keyFrom(shape, 1));
+                rests[shape] = find(sizeOf(shape) - row(shape, 0), keyWithRows(0, shape, 1));
                 orders[shape] = countOrders(shape);
             }
         }
@@ -647,7 +647,7 @@ public final class CharactersMultiplied {
             int size = 0;
             for (int digit = GREATEST_SIZE - 1; digit >= 0; digit--) {
                 int row = KEYS[shape] >> digit * DIGIT & DIGIT_MASK;
-                if (row > 0) {
+                if (row > 0 && length < GREATEST_SIZE) {
                     rows[start + length] = row;
                     length++;
                     size += row;
@@ -676,8 +676,9 @@ public final class CharactersMultiplied {
             return key << DIGIT | row;
         }
 
-        private int keyFrom(int shape, int firstRow) {
-            int key = 0;
+        /** The key of rows with those of a SHAPE, from one on, behind them. */
+        private int keyWithRows(int ahead, int shape, int firstRow) {
+            int key = ahead;
             for (int r = firstRow; r < lengthOf(shape); r++) {
                 key = keyWith(key, row(shape, r));
             }
@@ -685,11 +686,7 @@ public final class CharactersMultiplied {
         }
 
         /** The SHAPE with these rows, -1 if there is none. */
-        int find(int key) {
-            int size = 0;
-            for (int digit = 0; digit < GREATEST_SIZE; digit++) {
-                size += key >> digit * DIGIT & DIGIT_MASK;
-            }
+        int find(int size, int key) {
             int end = firstOf(size) + countOf(size);
             for (int shape = firstOf(size); shape < end; shape++) {
                 if (KEYS[shape] == key) {
@@ -744,10 +741,8 @@ public final class CharactersMultiplied {
 
         int column(int shape, int c) {
             int cells = 0;
-            for (int r = 0; r < lengthOf(shape); r++) {
-                if (c < row(shape, r)) {
-                    cells++;
-                }
+            while (cells < GREATEST_SIZE && c < row(shape, cells)) {
+                cells++;
             }
             return cells;
         }
@@ -757,8 +752,8 @@ public final class CharactersMultiplied {
         }
 
         int hookAt(int shape, int r, int c) {
-            int right = row(shape, r) - c - 1;
-            int below = column(shape, c) - r - 1;
+            int right = row(shape, r) - 1 - c;
+            int below = column(shape, c) - 1 - r;
             return right + below + 1;
         }
 
@@ -767,7 +762,7 @@ public final class CharactersMultiplied {
             for (int c = 0; c < row(shape, 0); c++) {
                 key = keyWith(key, column(shape, c));
             }
-            return find(key);
+            return find(sizeOf(shape), key);
         }
 
         int grownTo(int shape, int n) {
@@ -775,11 +770,7 @@ public final class CharactersMultiplied {
             if (ahead < row(shape, 0) || n > GREATEST_SIZE) {
                 return NONE;
             }
-            int key = keyWith(0, ahead);
-            for (int r = 0; r < lengthOf(shape); r++) {
-                key = keyWith(key, row(shape, r));
-            }
-            return find(key);
+            return find(n, keyWithRows(ahead, shape, 0));
         }
     }
 
@@ -816,6 +807,7 @@ public final class CharactersMultiplied {
 
         private int shapeLeft(int shape, int start, int end, int c) {
             int key = 0;
+            int size = 0;
             for (int r = 0; r < shapes.lengthOf(shape); r++) {
                 int row = shapes.row(shape, r);
                 if (r >= start && r < end) {
@@ -825,9 +817,10 @@ public final class CharactersMultiplied {
                 }
                 if (row > 0) {
                     key = Shapes.keyWith(key, row);
+                    size += row;
                 }
             }
-            return shapes.find(key);
+            return shapes.find(size, key);
         }
 
         private boolean has(int shape, int cell) {
@@ -947,35 +940,29 @@ public final class CharactersMultiplied {
     private static final class Characters {
 
         private final Shapes shapes;
-        private final Rims rims;
         private final int[] table = new int[SHAPES * WIDEST];
 
-        /** What is left of a SHAPE has a lesser number, so its row stands already. */
+        /** What is left of a SHAPE has a lesser number, so its CHARACTERS stand already. */
         Characters(Shapes ofShapes, Rims ofRims) {
             shapes = ofShapes;
-            rims = ofRims;
-            for (int shape = 0; shape < SHAPES; shape++) {
-                int size = ofShapes.sizeOf(shape);
-                for (int place = 0; place < ofShapes.countOf(size) && place < WIDEST; place++) {
-                    table[shape * WIDEST + place] = walk(shape, ofShapes.firstOf(size) + place);
+            table[0] = 1;
+            for (int shape = 1; shape < SHAPES; shape++) {
+                for (int cell = 0; cell < ofShapes.sizeOf(shape); cell++) {
+                    int sign = ofRims.heightBy(shape, cell) % 2 == 0 ? 1 : -1;
+                    addRim(shape, ofRims.hookBy(shape, cell), ofRims.leftBy(shape, cell), sign);
                 }
             }
         }
 
-        private int walk(int shape, int atClass) {
-            if (shapes.sizeOf(shape) == 0) {
-                return 1;
-            }
-            int k = shapes.row(atClass, 0);
-            int rest = shapes.restOf(atClass);
-            int together = 0;
-            for (int cell = 0; cell < shapes.sizeOf(shape); cell++) {
-                if (rims.hookBy(shape, cell) == k) {
-                    int part = at(rims.leftBy(shape, cell), rest);
-                    together += rims.heightBy(shape, cell) % 2 == 0 ? part : -part;
+        /** What a RIM of k brings to the CHARACTERS at all CLASSES that begin with k. */
+        private void addRim(int shape, int k, int left, int sign) {
+            int first = shapes.firstOf(shapes.sizeOf(shape));
+            int count = shapes.countOf(shapes.sizeOf(shape));
+            for (int place = 0; place < count && place < WIDEST; place++) {
+                if (shapes.row(first + place, 0) == k) {
+                    table[shape * WIDEST + place] += sign * at(left, shapes.restOf(first + place));
                 }
             }
-            return together;
         }
 
         int at(int shape, int atClass) {
@@ -1269,6 +1256,8 @@ public final class CharactersMultiplied {
         private final Characters characters;
         private final Numbers numbers;
         private final Sums sums;
+        /** The new COEFFICIENTS, by places, before it is known whether they are in range. */
+        private final long[] totals = new long[WIDEST];
 
         Arithmetic(Shapes ofShapes, Rims ofRims, Characters ofCharacters, Numbers ofNumbers, Sums ofSums) {
             shapes = ofShapes;
@@ -1278,110 +1267,98 @@ public final class CharactersMultiplied {
             sums = ofSums;
         }
 
-        /** PLUS with the sign 1, LESS with the sign -1. */
-        boolean draftsPlus(int one, int other, int sign) {
-            int size = sums.sizeOf(one);
+        private void begin() {
+            for (int place = 0; place < WIDEST; place++) {
+                totals[place] = 0;
+            }
+        }
+
+        private void add(int place, long more) {
+            if (place >= 0 && place < WIDEST) {
+                totals[place] += more;
+            }
+        }
+
+        private boolean draftsTotals(int size) {
             sums.beginDraft(size);
-            for (int place = 0; place < shapes.countOf(size); place++) {
-                if (!sums.setInDraft(place, sums.at(one, place) + sign * sums.at(other, place))) {
+            for (int place = 0; place < WIDEST; place++) {
+                if (!sums.setInDraft(place, totals[place])) {
                     return false;
                 }
             }
             return true;
+        }
+
+        /** PLUS with the sign 1, LESS with the sign -1. */
+        boolean draftsPlus(int one, int other, int sign) {
+            begin();
+            for (int place = 0; place < WIDEST; place++) {
+                add(place, sums.at(one, place) + sign * sums.at(other, place));
+            }
+            return draftsTotals(sums.sizeOf(one));
         }
 
         boolean draftsTimes(int one, int other) {
             int size = sums.sizeOf(one);
-            sums.beginDraft(size);
-            for (int place = 0; place < shapes.countOf(size); place++) {
-                if (!sums.setInDraft(place, timesAt(one, other, place))) {
-                    return false;
+            begin();
+            for (int i = 0; i < shapes.countOf(size); i++) {
+                addProduct(size, i, i, (long) sums.at(one, i) * sums.at(other, i));
+                // The NUMBER does not tell the two SHAPES apart, so both orders go together.
+                for (int j = 0; j < i; j++) {
+                    long both = (long) sums.at(one, i) * sums.at(other, j);
+                    both += (long) sums.at(one, j) * sums.at(other, i);
+                    addProduct(size, i, j, both);
                 }
             }
-            return true;
+            return draftsTotals(size);
         }
 
-        private long timesAt(int one, int other, int place) {
-            int size = sums.sizeOf(one);
-            int count = shapes.countOf(size);
-            long together = 0;
-            for (int i = 0; i < count; i++) {
-                for (int j = 0; j < count; j++) {
-                    long both = (long) sums.at(one, i) * sums.at(other, j);
-                    // Most pairs of most SUMS are 0: their NUMBER need not be known.
-                    if (both != 0) {
-                        together += both * numbers.atPlaces(size, i, j, place);
-                    }
+        private void addProduct(int size, int i, int j, long often) {
+            // Most COEFFICIENTS of most SUMS are 0: their NUMBERS need not be known.
+            if (often != 0) {
+                for (int place = 0; place < shapes.countOf(size); place++) {
+                    add(place, often * numbers.atPlaces(size, i, j, place));
                 }
             }
-            return together;
         }
 
         boolean draftsAbout(int sum) {
             int size = sums.sizeOf(sum);
-            int first = shapes.firstOf(size);
-            sums.beginDraft(size);
+            begin();
             for (int place = 0; place < shapes.countOf(size); place++) {
-                int turned = shapes.placeOf(shapes.turnedOf(first + place));
-                if (!sums.setInDraft(turned, sums.at(sum, place))) {
-                    return false;
-                }
+                int turned = shapes.turnedOf(shapes.firstOf(size) + place);
+                add(shapes.placeOf(turned), sums.at(sum, place));
             }
-            return true;
-        }
-
-        boolean draftsRestricted(int sum) {
-            int size = sums.sizeOf(sum) - 1;
-            sums.beginDraft(size);
-            for (int place = 0; place < shapes.countOf(size); place++) {
-                if (!sums.setInDraft(place, restrictedTo(sum, shapes.firstOf(size) + place))) {
-                    return false;
-                }
-            }
-            return true;
-        }
-
-        private long restrictedTo(int sum, int shape) {
-            int size = sums.sizeOf(sum);
-            int first = shapes.firstOf(size);
-            long together = 0;
-            for (int place = 0; place < shapes.countOf(size); place++) {
-                if (leaves(first + place, shape)) {
-                    together += sums.at(sum, place);
-                }
-            }
-            return together;
+            return draftsTotals(size);
         }
 
         /** A CELL at the end of a row that may go is just one whose HOOK is 1. */
-        private boolean leaves(int shape, int left) {
-            for (int cell = 0; cell < shapes.sizeOf(shape); cell++) {
-                if (rims.hookBy(shape, cell) == 1 && rims.leftBy(shape, cell) == left) {
-                    return true;
+        boolean draftsRestricted(int sum) {
+            int size = sums.sizeOf(sum);
+            begin();
+            for (int place = 0; place < shapes.countOf(size); place++) {
+                int shape = shapes.firstOf(size) + place;
+                for (int cell = 0; cell < size; cell++) {
+                    if (rims.hookBy(shape, cell) == 1) {
+                        add(shapes.placeOf(rims.leftBy(shape, cell)), sums.at(sum, place));
+                    }
                 }
             }
-            return false;
+            return draftsTotals(size - 1);
         }
 
         boolean draftsInduced(int sum) {
             int size = sums.sizeOf(sum) + 1;
-            sums.beginDraft(size);
+            begin();
             for (int place = 0; place < shapes.countOf(size); place++) {
-                if (!sums.setInDraft(place, inducedTo(sum, shapes.firstOf(size) + place))) {
-                    return false;
+                int shape = shapes.firstOf(size) + place;
+                for (int cell = 0; cell < size; cell++) {
+                    if (rims.hookBy(shape, cell) == 1) {
+                        add(place, sums.at(sum, shapes.placeOf(rims.leftBy(shape, cell))));
+                    }
                 }
             }
-            return true;
-        }
-
-        private long inducedTo(int sum, int shape) {
-            long together = 0;
-            for (int cell = 0; cell < shapes.sizeOf(shape); cell++) {
-                if (rims.hookBy(shape, cell) == 1) {
-                    together += sums.at(sum, shapes.placeOf(rims.leftBy(shape, cell)));
-                }
-            }
-            return together;
+            return draftsTotals(size);
         }
 
         long valueAt(int sum, int atClass) {
@@ -1483,7 +1460,7 @@ public final class CharactersMultiplied {
             if (!passes('[')) {
                 return false;
             }
-            int shape = shapes.find(passRows());
+            int shape = passRows();
             if (nextLetter() == ']' && size == NO_SIZE) {
                 size = shapes.sizeOf(shape);
                 sums.beginDraft(size);
@@ -1507,22 +1484,23 @@ public final class CharactersMultiplied {
             return digits == 0 ? 1 : number;
         }
 
-        /** The key of the rows, up to the first letter that can't be one. */
+        /** The SHAPE of the rows that stand there, up to the first letter that can't be one. */
         private int passRows() {
-            int room = size == NO_SIZE ? GREATEST_SIZE : size;
-            int last = GREATEST_SIZE;
+            int most = size == NO_SIZE ? GREATEST_SIZE : size;
+            int last = most;
+            int used = 0;
             int key = 0;
             for (int r = 0; r < GREATEST_SIZE; r++) {
                 int row = nextLetter() - '0';
-                if (row < 1 || row > last || row > room) {
-                    return key;
+                if (row < 1 || row > last || used + row > most) {
+                    break;
                 }
                 key = Shapes.keyWith(key, row);
-                room -= row;
+                used += row;
                 last = row;
                 next++;
             }
-            return key;
+            return shapes.find(used, key);
         }
     }
 

@@ -5,6 +5,7 @@ public final class NumbersTest {
     public static void main(String[] args) {
         promise10Number();
         promise10WithTheModel();
+        promise10OfAllSizes();
         promise11Product();
         promise12Greatest();
         promise13Grown();
@@ -51,6 +52,21 @@ public final class NumbersTest {
                     due("number(" + one + ", " + two + ", " + three + ")",
                         x.number(one, two, three), Oracle.number(one, two, three));
                 }
+            }
+        }
+    }
+
+    /** Numbers of all sizes on one object: none stands where another is kept. */
+    private static void promise10OfAllSizes() {
+        CharactersMultiplied x = new CharactersMultiplied();
+        for (int turn = 0; turn < 4; turn++) {
+            for (int i = 0; i <= 8; i++) {
+                int size = turn % 2 == 0 ? i : 8 - i;
+                int first = Oracle.first(size);
+                int last = first + Oracle.many(size) - 1;
+                due("first of " + size, x.number(first, first, first), 1);
+                due("last of " + size, x.number(last, last, last), size < 2 ? 1 : 0);
+                due("last, last, first of " + size, x.number(last, first, last), 1);
             }
         }
     }

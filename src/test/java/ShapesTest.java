@@ -191,6 +191,8 @@ public final class ShapesTest {
         due("height(55, 4, 2)", x.height(55, 4, 2), -9);
         due("height(66, 8, 0)", x.height(66, 8, 0), 7);
         due("height(45, 8, 0)", x.height(45, 8, 0), 0);
+        due("height(55, 1, 2)", x.height(55, 1, 2), 0);
+        due("height(55, 2, 0)", x.height(55, 2, 0), 0);
         due("height(55, 3, 0)", x.height(55, 3, 0), -9);
         due("height(-1, 0, 0)", x.height(-1, 0, 0), -1);
         due("height(67, 1, 0)", x.height(67, 1, 0), -1);
