@@ -178,18 +178,17 @@ public final class CharactersMultiplied {
         }
         int above = kinds.howMany(size, kind);
         int below = shapes.countOf(size);
-        int divisor = greatestDivisor(above, below);
-        return (part == 0 ? above : below) / divisor;
+        return inLeastTerms(part == 0 ? above : below, above, below);
     }
 
-    /** Of 0 and a number it is the number itself, which makes 0 by 1. */
-    private static int greatestDivisor(int one, int other) {
-        for (int divisor = other; divisor > 1; divisor--) {
-            if (one % divisor == 0 && other % divisor == 0) {
-                return divisor;
+    /** The greatest that divides 0 and a number is the number itself, which makes 0 by 1. */
+    private static int inLeastTerms(int part, int above, int below) {
+        for (int divisor = below; divisor > 1; divisor--) {
+            if (above % divisor == 0 && below % divisor == 0) {
+                return part / divisor;
             }
         }
-        return 1;
+        return part;
     }
 
     // ---- numbers
@@ -405,7 +404,7 @@ public final class CharactersMultiplied {
             return MISSING;
         }
         int size = sums.sizeOf(sum);
-        if (what == 1 && size < 1 || what == 2 && size >= GREATEST_SIZE) {
+        if ((what == 1 && size < 1) || (what == 2 && size >= GREATEST_SIZE)) {
             return refuse(STATE);
         }
         boolean fits;
